@@ -10,6 +10,7 @@ final class HostTest {
         guestNumbers();
         rootTableNeedsFreeFrame();
         destroyFreesAll();
+        countsBeginAnew();
         vcpuNumbers();
         newVcpu();
         tablesComeWhenNeeded();
@@ -17,12 +18,16 @@ final class HostTest {
         swapping();
         swapNeedsSlot();
         moving();
+        moveLeavesOthersAlone();
         moveNeedsFrame();
         targets();
         harvesting();
         poking();
         peeking();
         counting();
+        tableInFrameZero();
+        pageInFrameZero();
+        walkThroughFrameZero();
         Check.end();
     }
 
@@ -132,6 +137,37 @@ final class HostTest {
         Check.due("the DISK is 0", host.peek(1, 0), 0);
     }
 
+    private static void countsBeginAnew() {
+        NestedPager host = new NestedPager();
+        host.guest(128);
+        host.vcpu(0);
+        fill(host, 0, 119);
+        host.access(0, 0, 120 * 16, 0);
+        host.swap(0, 118);
+        host.access(0, 0, 118 * 16, 0);
+        host.access(0, 1, Rig.DISK + 1, 200);
+        host.access(0, 1, Rig.DISK + 2, 1);
+        Check.due("RECLAIMED", host.count(0, 7), 1);
+        Check.due("SWAPINS", host.count(0, 6), 1);
+        Check.due("the DISK's reason", host.access(0, 0, Rig.DISK + 3, 0), 1);
+        host.access(0, 1, Rig.DISK + 1, 5);
+        host.access(0, 1, Rig.DISK + 2, 2);
+        host.access(0, 1, Rig.DISK + 1, 200);
+        host.access(0, 1, Rig.DISK + 2, 2);
+        Check.holds("page 0 is SWAPPED", host.entry(0, 0) / 32 % 4 == 2);
+        Check.due("destroy", host.destroy(0), 128);
+        Check.due("free SLOTS", host.host(1), 64);
+        Check.due("guest", host.guest(9), 0);
+        for (int what = 1; what < 12; what++) {
+            Check.due("count(" + what + ")", host.count(0, what), 0);
+        }
+        host.vcpu(0);
+        Check.due("the DISK's reason", host.access(0, 0, Rig.DISK + 3, 0), 0);
+        host.access(0, 1, Rig.DISK + 1, 5);
+        host.access(0, 1, Rig.DISK + 2, 1);
+        Check.due("the DISK's first word", host.peek(0, 5 * 16), 0);
+    }
+
     private static void vcpuNumbers() {
         NestedPager host = new NestedPager();
         host.guest(1);
@@ -159,10 +195,15 @@ final class HostTest {
         for (int what = 0; what < 10; what++) {
             host.set(0, what, 1);
         }
+        host.poke(0, 16, Rig.to(2, 7), 0, 0, 0);
+        host.poke(0, 32, Rig.to(3, 7), Rig.to(3, 7), 0, 0);
         host.access(0, 0, 0, 0);
+        host.access(0, 0, 16, 0);
+        host.access(0, 0, 300, 0);
         host.set(0, 4, 0);
         host.access(0, 0, 3000, 0);
         host.run(0, 1);
+        Check.due("a place is told", host.aside(0, 1, 0), 1);
         host.destroy(0);
         Check.due("vcpu", host.vcpu(1), 0);
         for (int what = 0; what < 19; what++) {
@@ -174,6 +215,11 @@ final class HostTest {
         for (int i = 0; i < 8; i++) {
             Check.due("new aside(" + i + ")", host.aside(0, i, 0), -1);
         }
+        host.poke(1, 0, Rig.to(2, 7), 0, 0, 0);
+        host.poke(1, 32, Rig.to(3, 7), 0, 0, 0);
+        host.set(0, 4, 1);
+        host.access(0, 0, 0, 0);
+        Check.due("place 0 is the first", host.aside(0, 0, 1), 3);
     }
 
     private static void tablesComeWhenNeeded() {
@@ -304,6 +350,21 @@ final class HostTest {
         Check.badState("move of no guest", () -> host.move(3, 0));
     }
 
+    private static void moveLeavesOthersAlone() {
+        Rig rig = new Rig(20);
+        for (int page = 0; page < 5; page++) {
+            for (int i = 0; i < 16; i += 4) {
+                rig.write(page * 16 + i, page * 16 + i + 1, 2, 3, page * 16 + i + 4);
+            }
+        }
+        Check.due("move(1)", rig.host.move(0, 1), 7);
+        Check.due("move(3)", rig.host.move(0, 3), 3);
+        for (int page = 0; page < 5; page++) {
+            Check.due("first word of " + page, rig.host.peek(0, page * 16), page * 16 + 1);
+            Check.due("last word of " + page, rig.host.peek(0, page * 16 + 15), page * 16 + 16);
+        }
+    }
+
     private static void moveNeedsFrame() {
         NestedPager host = new NestedPager();
         host.guest(128);
@@ -426,6 +487,90 @@ final class HostTest {
         // root, two tables, pages 0, 3, 4, 5
         for (int what = 0; what < 5; what++) {
             Check.due("host(" + what + ")", host.host(what), ofHost[what]);
+        }
+    }
+
+    /** Guest 1 with VCPU 0, where frame 0 is FREE and, if it is told so, page 1 and its TABLE are HERE. */
+    private static NestedPager frameZeroFree(boolean withTable) {
+        NestedPager host = new NestedPager();
+        host.guest(1);
+        host.guest(40);
+        host.vcpu(1);
+        if (withTable) {
+            host.poke(1, 16, 1, 1, 1, 1);
+        }
+        host.destroy(0);
+        return host;
+    }
+
+    private static void tableInFrameZero() {
+        NestedPager host = frameZeroFree(false);
+        Check.due("deny", host.deny(1, 16, 6), 0);
+        dueOwner(host, 0, 1, 1, 16);
+        Check.due("the ROOT TABLE", host.frame(1, 1), 1);
+        Check.due("the ENTRY", host.frame(0, 0), 6);
+        Check.due("entry", host.entry(1, 16), 6);
+        Check.due("deny", host.deny(1, 16, 0), 6);
+        Check.due("a WRITE", host.access(0, 1, 16 * 16, 5), 0);
+        Check.due("the ENTRY", host.frame(0, 0), 2 * 256 + 32 + 16 + 8);
+        Check.due("harvest", host.harvest(1), 1);
+        Check.due("which", host.dirty(0), 16);
+        Check.due("swap", host.swap(1, 16), 0);
+        Check.due("a READ", host.access(0, 0, 16 * 16, 0), 5);
+        host.poke(1, 0, Rig.call(1), Rig.call(2), 0, 0);
+        host.set(0, Rig.A, 16);
+        host.run(0, 1);
+        Check.due("give", host.get(0, Rig.A), 0);
+        Check.due("GIVEN", host.entry(1, 16), 96);
+        host.set(0, Rig.A, 16);
+        host.run(0, 1);
+        Check.due("take back", host.get(0, Rig.A), 0);
+        Check.due("FRESH", host.entry(1, 16), 0);
+        Check.due("an ACCESS alone", frameZeroFree(false).access(0, 1, 16 * 16, 5), 0);
+        host = frameZeroFree(false);
+        host.poke(1, 0, Rig.call(1), 0, 0, 0);
+        dueOwner(host, 0, 1, 1, 0);
+        host.set(0, Rig.A, 0);
+        host.run(0, 1);
+        Check.due("the ENTRY of page 0", host.frame(0, 0), 96);
+        Check.due("destroy", host.destroy(1), 2);
+        Check.due("FREE frames", host.host(0), 128);
+    }
+
+    private static void pageInFrameZero() {
+        NestedPager host = frameZeroFree(true);
+        Check.due("poke", host.poke(1, 32, 5, 6, 7, 8), 0);
+        dueOwner(host, 0, 2, 1, 2);
+        Check.due("the ENTRY", host.entry(1, 2), 32 + 16);
+        Check.due("a READ", host.access(0, 0, 33, 0), 6);
+        Check.due("a WRITE", host.access(0, 1, 34, 9), 0);
+        Check.due("peek", host.peek(1, 34), 9);
+        host.access(0, 1, Rig.DISK + 1, 2);
+        host.access(0, 1, Rig.DISK + 2, 2);
+        Check.due("no reason", host.access(0, 0, Rig.DISK + 3, 0), 0);
+        host.poke(1, 32, 0, 0, 0, 0);
+        host.access(0, 1, Rig.DISK + 2, 1);
+        Check.due("by the DISK", host.access(0, 0, 33, 0), 6);
+        Check.due("swap", host.swap(1, 2), 0);
+        dueOwner(host, 0, 0, -1, -1);
+        Check.due("move", host.move(1, 1), 0);
+        dueOwner(host, 0, 2, 1, 1);
+        Check.due("its words", host.frame(0, 3), 1);
+    }
+
+    private static void walkThroughFrameZero() {
+        for (int inZero = 2; inZero < 4; inZero++) {
+            NestedPager host = frameZeroFree(true);
+            host.poke(1, inZero * 16, 0, 0, 0, 0);
+            host.poke(1, 2 * 16, Rig.to(3, 7), 0, 0, 0);
+            host.poke(1, 3 * 16, Rig.to(4, 7), 0, 0, 0);
+            dueOwner(host, 0, 2, 1, inZero);
+            host.set(0, Rig.ROOT, 2);
+            host.set(0, Rig.BITS, 1);
+            Check.due("a WRITE", host.access(0, 1, 3, 77), 0);
+            Check.due("the word", host.peek(1, 4 * 16 + 3), 77);
+            Check.due("the first entry", host.peek(1, 32), Rig.to(3, 7 | Rig.ACC));
+            Check.due("the LEAF", host.peek(1, 48), Rig.to(4, 7 | Rig.ACC | Rig.DTY));
         }
     }
 
