@@ -2,15 +2,22 @@
 final class Check {
     private static int asked = 0;
     private static int wrong = 0;
+    private static String sentence = "";
 
     private Check() {
+    }
+
+    /** What is asked from here on is told by this sentence of the document, which is printed with what is wrong. */
+    static void sentence(String words) {
+        sentence = words;
     }
 
     static void due(String what, int got, int want) {
         asked++;
         if (got != want) {
             wrong++;
-            System.out.println(what + " answered " + got + ", due is " + want);
+            String where = sentence.isEmpty() ? "" : "\"" + sentence + "\": ";
+            System.out.println(where + what + " answered " + got + ", due is " + want);
         }
     }
 
