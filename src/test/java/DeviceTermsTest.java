@@ -503,14 +503,21 @@ final class DeviceTermsTest {
         rig.set(Rig.PC, 1);
         rig.dueRun("one that is FAULTED", 9, 0);
         Check.due("TICKS", host.count(0, 8), 4);
+        rig.set(Rig.PC, 500);
+        rig.dueRun("one whose FETCH is an EXIT", 9, 0);
+        Check.due("TICKS", host.count(0, 8), 5);
+        rig.set(Rig.BITS, 1);
+        rig.dueRun("one whose FETCH is a FAULT", 9, 0);
+        Check.due("TICKS", host.count(0, 8), 6);
+        rig.set(Rig.BITS, 0);
         rig.set(Rig.PC, 3);
         rig.dueRun("HALT", 9, 1);
-        Check.due("TICKS", host.count(0, 8), 5);
+        Check.due("TICKS", host.count(0, 8), 7);
         rig.dueRun("none is tried", 9, 0);
-        Check.due("TICKS", host.count(0, 8), 5);
+        Check.due("TICKS", host.count(0, 8), 7);
         Check.badArgument("none is tried", () -> host.run(0, 0));
         Check.badState("none is tried", () -> host.run(1, 1));
-        Check.due("TICKS", host.count(0, 8), 5);
+        Check.due("TICKS", host.count(0, 8), 7);
     }
 
     private static void tickIsEachAccess() {

@@ -8,12 +8,16 @@ final class HostTermsTest {
     public static void main(String[] args) {
         wordsHaveSixteenBits();
         framesAndSlotsHaveSixteenWords();
+        tableInFrameZero();
+        pageInFrameZero();
+        walkThroughFrameZero();
         freeFramesAreZero();
         newFrameIsTheLeast();
         newFrameIsZero();
         reclaimsIfNoneIsFree();
         noneWithoutSlot();
         handAtFirst();
+        frameZeroIsReclaimed();
         zeroIsBehindLastFrame();
         handGoesRoundInOneSearch();
         handGoesOverEnough();
@@ -69,6 +73,93 @@ final class HostTermsTest {
         NestedPager full = rig.host;
         Check.badArgument("frame 128", () -> full.frame(128, 0));
         Check.badArgument("word 16", () -> full.frame(127, 16));
+    }
+
+    /** Guest 1 with VCPU 0, where frame 0 is FREE and, if it is told so, page 1 and its TABLE are HERE. */
+    private static NestedPager frameZeroFree(boolean withTable) {
+        NestedPager host = new NestedPager();
+        host.guest(1);
+        host.guest(40);
+        host.vcpu(1);
+        if (withTable) {
+            host.poke(1, 16, 1, 1, 1, 1);
+        }
+        host.destroy(0);
+        return host;
+    }
+
+    private static void tableInFrameZero() {
+        Check.sentence("FRAMES 0 .. 127 and SLOTS 0 .. 63 have 16 words each.");
+        NestedPager host = frameZeroFree(false);
+        Check.due("deny", host.deny(1, 16, 6), 0);
+        Hosts.dueOwner(host, 0, 1, 1, 16);
+        Check.due("the ROOT TABLE", host.frame(1, 1), 1);
+        Check.due("the ENTRY", host.frame(0, 0), 6);
+        Check.due("entry", host.entry(1, 16), 6);
+        Check.due("deny", host.deny(1, 16, 0), 6);
+        Check.due("a WRITE", host.access(0, 1, 16 * 16, 5), 0);
+        Check.due("the ENTRY", host.frame(0, 0), 2 * 256 + 32 + 16 + 8);
+        Check.due("harvest", host.harvest(1), 1);
+        Check.due("which", host.dirty(0), 16);
+        Check.due("swap", host.swap(1, 16), 0);
+        Check.due("a READ", host.access(0, 0, 16 * 16, 0), 5);
+        host.poke(1, 0, Rig.call(1), Rig.call(2), 0, 0);
+        host.set(0, Rig.A, 16);
+        host.run(0, 1);
+        Check.due("give", host.get(0, Rig.A), 0);
+        Check.due("GIVEN", host.entry(1, 16), 96);
+        host.set(0, Rig.A, 16);
+        host.run(0, 1);
+        Check.due("take back", host.get(0, Rig.A), 0);
+        Check.due("FRESH", host.entry(1, 16), 0);
+        Check.due("an ACCESS alone", frameZeroFree(false).access(0, 1, 16 * 16, 5), 0);
+        host = frameZeroFree(false);
+        host.poke(1, 0, Rig.call(1), 0, 0, 0);
+        Hosts.dueOwner(host, 0, 1, 1, 0);
+        host.set(0, Rig.A, 0);
+        host.run(0, 1);
+        Check.due("the ENTRY of page 0", host.frame(0, 0), 96);
+        Check.due("destroy", host.destroy(1), 2);
+        Check.due("FREE frames", host.host(0), 128);
+    }
+
+    private static void pageInFrameZero() {
+        Check.sentence("FRAMES 0 .. 127 and SLOTS 0 .. 63 have 16 words each.");
+        NestedPager host = frameZeroFree(true);
+        Check.due("poke", host.poke(1, 32, 5, 6, 7, 8), 0);
+        Hosts.dueOwner(host, 0, 2, 1, 2);
+        Check.due("the ENTRY", host.entry(1, 2), 32 + 16);
+        Check.due("a READ", host.access(0, 0, 33, 0), 6);
+        Check.due("a WRITE", host.access(0, 1, 34, 9), 0);
+        Check.due("peek", host.peek(1, 34), 9);
+        host.access(0, 1, Rig.DISK + 1, 2);
+        host.access(0, 1, Rig.DISK + 2, 2);
+        Check.due("no reason", host.access(0, 0, Rig.DISK + 3, 0), 0);
+        host.poke(1, 32, 0, 0, 0, 0);
+        host.access(0, 1, Rig.DISK + 2, 1);
+        Check.due("by the DISK", host.access(0, 0, 33, 0), 6);
+        Check.due("swap", host.swap(1, 2), 0);
+        Hosts.dueOwner(host, 0, 0, -1, -1);
+        Check.due("move", host.move(1, 1), 0);
+        Hosts.dueOwner(host, 0, 2, 1, 1);
+        Check.due("its words", host.frame(0, 3), 1);
+    }
+
+    private static void walkThroughFrameZero() {
+        Check.sentence("FRAMES 0 .. 127 and SLOTS 0 .. 63 have 16 words each.");
+        for (int inZero = 2; inZero < 4; inZero++) {
+            NestedPager host = frameZeroFree(true);
+            host.poke(1, inZero * 16, 0, 0, 0, 0);
+            host.poke(1, 2 * 16, Rig.to(3, 7), 0, 0, 0);
+            host.poke(1, 3 * 16, Rig.to(4, 7), 0, 0, 0);
+            Hosts.dueOwner(host, 0, 2, 1, inZero);
+            host.set(0, Rig.ROOT, 2);
+            host.set(0, Rig.BITS, 1);
+            Check.due("a WRITE", host.access(0, 1, 3, 77), 0);
+            Check.due("the word", host.peek(1, 4 * 16 + 3), 77);
+            Check.due("the first entry", host.peek(1, 32), Rig.to(3, 7 | Rig.ACC));
+            Check.due("the LEAF", host.peek(1, 48), Rig.to(4, 7 | Rig.ACC | Rig.DTY));
+        }
     }
 
     private static void freeFramesAreZero() {
@@ -186,6 +277,26 @@ final class HostTermsTest {
         Check.due("THE HAND", rig.host.host(2), 3);
         rig.host.destroy(0);
         Check.due("it stays when all are FREE", rig.host.host(2), 3);
+    }
+
+    private static void frameZeroIsReclaimed() {
+        Check.sentence("else THE HAND (at first at frame 0) goes from frame to frame (0 behind 127), over at most 256:");
+        NestedPager host = new NestedPager();
+        host.guest(1);
+        host.guest(128);
+        host.vcpu(1);
+        host.poke(1, 0, 50, 0, 0, 0);
+        host.destroy(0);
+        for (int page = 1; page < 119; page++) {
+            host.poke(1, page * 16, 50 + page, 0, 0, 0);
+        }
+        Check.due("FREE frames", host.host(0), 0);
+        Check.due("page 1 is in frame 0", host.entry(1, 1), 32 + 16);
+        Check.due("a new page", host.access(0, 1, 119 * 16, 3), 0);
+        Check.due("page 1 is SWAPPED", host.entry(1, 1), 64 + 16);
+        Check.due("page 119 is in frame 0", host.entry(1, 119), 32 + 16 + 8);
+        Check.due("THE HAND", host.host(2), 1);
+        Check.due("page 1 comes back", host.access(0, 0, 16, 0), 51);
     }
 
     private static void zeroIsBehindLastFrame() {

@@ -25,9 +25,6 @@ final class HostTest {
         poking();
         peeking();
         counting();
-        tableInFrameZero();
-        pageInFrameZero();
-        walkThroughFrameZero();
         Check.end();
     }
 
@@ -487,90 +484,6 @@ final class HostTest {
         // root, two tables, pages 0, 3, 4, 5
         for (int what = 0; what < 5; what++) {
             Check.due("host(" + what + ")", host.host(what), ofHost[what]);
-        }
-    }
-
-    /** Guest 1 with VCPU 0, where frame 0 is FREE and, if it is told so, page 1 and its TABLE are HERE. */
-    private static NestedPager frameZeroFree(boolean withTable) {
-        NestedPager host = new NestedPager();
-        host.guest(1);
-        host.guest(40);
-        host.vcpu(1);
-        if (withTable) {
-            host.poke(1, 16, 1, 1, 1, 1);
-        }
-        host.destroy(0);
-        return host;
-    }
-
-    private static void tableInFrameZero() {
-        NestedPager host = frameZeroFree(false);
-        Check.due("deny", host.deny(1, 16, 6), 0);
-        dueOwner(host, 0, 1, 1, 16);
-        Check.due("the ROOT TABLE", host.frame(1, 1), 1);
-        Check.due("the ENTRY", host.frame(0, 0), 6);
-        Check.due("entry", host.entry(1, 16), 6);
-        Check.due("deny", host.deny(1, 16, 0), 6);
-        Check.due("a WRITE", host.access(0, 1, 16 * 16, 5), 0);
-        Check.due("the ENTRY", host.frame(0, 0), 2 * 256 + 32 + 16 + 8);
-        Check.due("harvest", host.harvest(1), 1);
-        Check.due("which", host.dirty(0), 16);
-        Check.due("swap", host.swap(1, 16), 0);
-        Check.due("a READ", host.access(0, 0, 16 * 16, 0), 5);
-        host.poke(1, 0, Rig.call(1), Rig.call(2), 0, 0);
-        host.set(0, Rig.A, 16);
-        host.run(0, 1);
-        Check.due("give", host.get(0, Rig.A), 0);
-        Check.due("GIVEN", host.entry(1, 16), 96);
-        host.set(0, Rig.A, 16);
-        host.run(0, 1);
-        Check.due("take back", host.get(0, Rig.A), 0);
-        Check.due("FRESH", host.entry(1, 16), 0);
-        Check.due("an ACCESS alone", frameZeroFree(false).access(0, 1, 16 * 16, 5), 0);
-        host = frameZeroFree(false);
-        host.poke(1, 0, Rig.call(1), 0, 0, 0);
-        dueOwner(host, 0, 1, 1, 0);
-        host.set(0, Rig.A, 0);
-        host.run(0, 1);
-        Check.due("the ENTRY of page 0", host.frame(0, 0), 96);
-        Check.due("destroy", host.destroy(1), 2);
-        Check.due("FREE frames", host.host(0), 128);
-    }
-
-    private static void pageInFrameZero() {
-        NestedPager host = frameZeroFree(true);
-        Check.due("poke", host.poke(1, 32, 5, 6, 7, 8), 0);
-        dueOwner(host, 0, 2, 1, 2);
-        Check.due("the ENTRY", host.entry(1, 2), 32 + 16);
-        Check.due("a READ", host.access(0, 0, 33, 0), 6);
-        Check.due("a WRITE", host.access(0, 1, 34, 9), 0);
-        Check.due("peek", host.peek(1, 34), 9);
-        host.access(0, 1, Rig.DISK + 1, 2);
-        host.access(0, 1, Rig.DISK + 2, 2);
-        Check.due("no reason", host.access(0, 0, Rig.DISK + 3, 0), 0);
-        host.poke(1, 32, 0, 0, 0, 0);
-        host.access(0, 1, Rig.DISK + 2, 1);
-        Check.due("by the DISK", host.access(0, 0, 33, 0), 6);
-        Check.due("swap", host.swap(1, 2), 0);
-        dueOwner(host, 0, 0, -1, -1);
-        Check.due("move", host.move(1, 1), 0);
-        dueOwner(host, 0, 2, 1, 1);
-        Check.due("its words", host.frame(0, 3), 1);
-    }
-
-    private static void walkThroughFrameZero() {
-        for (int inZero = 2; inZero < 4; inZero++) {
-            NestedPager host = frameZeroFree(true);
-            host.poke(1, inZero * 16, 0, 0, 0, 0);
-            host.poke(1, 2 * 16, Rig.to(3, 7), 0, 0, 0);
-            host.poke(1, 3 * 16, Rig.to(4, 7), 0, 0, 0);
-            dueOwner(host, 0, 2, 1, inZero);
-            host.set(0, Rig.ROOT, 2);
-            host.set(0, Rig.BITS, 1);
-            Check.due("a WRITE", host.access(0, 1, 3, 77), 0);
-            Check.due("the word", host.peek(1, 4 * 16 + 3), 77);
-            Check.due("the first entry", host.peek(1, 32), Rig.to(3, 7 | Rig.ACC));
-            Check.due("the LEAF", host.peek(1, 48), Rig.to(4, 7 | Rig.ACC | Rig.DTY));
         }
     }
 

@@ -385,11 +385,17 @@ final class PageTermsTest {
         }
         host.deny(0, 1, 6);
         Check.due("free SLOTS", host.host(1), 61);
+        Hosts.fillPage(host, 0, 10, 200);
+        Hosts.fillPage(host, 0, 11, 300);
+        Check.due("frame 2 comes free, before page 11's", host.move(0, 10), 4);
         rig.dueAccess("SWAPIN", Rig.READ, 16 + 15, 0, 55);
+        Hosts.duePage(host, 0, 10, 200);
+        Hosts.duePage(host, 0, 11, 300);
+        Hosts.duePage(host, 0, 2, 80);
         Hosts.duePage(host, 0, 1, 40);
         Check.due("DENIED and DIRTY stay", host.entry(0, 1), 2 * 256 + 32 + 16 + 8 + 6);
         Check.due("SWAPINS", host.count(0, 6), 1);
-        Check.due("no DEMAND", host.count(0, 5), 3);
+        Check.due("no DEMAND", host.count(0, 5), 5);
         Check.due("SLOT 1 is free", host.host(1), 62);
         rig.write(3 * 16, 1);
         Check.due("it is the least", host.swap(0, 3), 1);

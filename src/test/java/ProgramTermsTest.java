@@ -141,9 +141,9 @@ final class ProgramTermsTest {
             }
             rig.dueReg("X stays", Rig.X, x[i]);
         }
-        Rig rig = program(0, 0, Rig.op(10, DATA));
-        rig.write(DATA, 65535);
-        rig.dueRun("10", 1, 1);
+        Rig rig = program(0, 3, Rig.op(10, DATA));
+        rig.write(DATA, 65535, 1, 2, 3);
+        rig.dueRun("10, at t alone", 1, 1);
         rig.dueReg("X", Rig.X, 65535);
         rig.dueReg("A stays", Rig.A, 0);
         // At 4096 t + X begins again; X itself is not cut.

@@ -13,6 +13,7 @@ final class PromiseTest {
     public static void main(String[] args) {
         newObject();
         guestNumbers();
+        guestBeginsAnew();
         guestWithoutRoom();
         destroyTakesAll();
         destroyCountsFrames();
@@ -33,10 +34,13 @@ final class PromiseTest {
         flushCounts();
         asideOfEmpty();
         denyAnswers();
+        denyRefused();
         denyWithoutRoom();
         swapAnswers();
+        swapRefused();
         swapWithoutRoom();
         moveAnswers();
+        moveRefused();
         moveWithoutRoom();
         targetAnswers();
         harvestAnswers();
@@ -44,6 +48,7 @@ final class PromiseTest {
         dirtyAnswers();
         entryAnswers();
         pokeLimits();
+        pokeRefused();
         pokeReasons();
         pokeIsNoAccess();
         peekAnswers();
@@ -119,6 +124,40 @@ final class PromiseTest {
         host.destroy(1);
         Check.due("the least of two", host.guest(7), 1);
         Check.due("then the other", host.guest(8), 3);
+    }
+
+    /** A guest that has a number again has nothing of the one that had it before. */
+    private static void guestBeginsAnew() {
+        Check.sentence("Its TARGET is 0.");
+        Rig rig = Hosts.withoutFrames();
+        NestedPager host = rig.host;
+        rig.dueAccess("page 0 is RECLAIMED", Rig.READ, 119 * 16, 0, 0);
+        rig.dueAccess("page 0 is SWAPPED in", Rig.READ, 0, 0, 1000);
+        rig.dueAccess("print", Rig.WRITE, Rig.CONSOLE, 65, 0);
+        rig.dueAccess("mail", Rig.WRITE, Rig.POST, 66, 0);
+        rig.dueAccess("a sector", Rig.WRITE, Rig.DISK + 1, 64, 0);
+        rig.dueAccess("a sector", Rig.WRITE, Rig.DISK + 2, 2, 0);
+        rig.dueAccess("an ALARM", Rig.WRITE, Rig.CLOCK + 1, 2, 0);
+        Hosts.give(rig, 50);
+        rig.dueAccess("an ALARM", Rig.WRITE, Rig.CLOCK + 1, 2, 0);
+        host.target(0, 77);
+        for (int what = 0; what < 12; what++) {
+            Check.holds("count(" + what + ") is not 0", host.count(0, what) > 0);
+        }
+        host.destroy(0);
+        Check.due("its number again", host.guest(30), 0);
+        for (int what = 1; what < 12; what++) {
+            Check.due("count(" + what + ")", host.count(0, what), 0);
+        }
+        for (int page = 0; page < 128; page++) {
+            Check.due("entry(" + page + ")", host.entry(0, page), 0);
+        }
+        Check.due("its VCPU again", host.vcpu(0), 0);
+        rig.dueAccess("no ALARM", Rig.READ, Rig.CLOCK + 1, 0, 0);
+        rig.dueAccess("no ALARM", Rig.READ, Rig.CLOCK + 1, 0, 0);
+        rig.dueReg("no EVENT", Rig.EVENTS, 0);
+        rig.dueAccess("an empty sector", Rig.WRITE, Rig.DISK + 2, 1, 0);
+        rig.dueAccess("its first word", Rig.READ, 0, 0, 0);
     }
 
     private static void guestWithoutRoom() {
@@ -565,12 +604,18 @@ final class PromiseTest {
             Check.due("entry", host.entry(0, 19), v);
             was = v;
         }
-        badPages("deny", host, 20, (g, page) -> host.deny(g, page, 0));
+        Check.due("no memory is touched", host.count(0, 5), 0);
+    }
+
+    private static void denyRefused() {
+        Check.sentence("IllegalArgument: also if the page is no 0 .. 127. IllegalState: also if it is not below RAM.");
+        NestedPager host = new Rig(20).host;
+        badPages("deny", host, 20, (g, page) -> host.deny(g, page, 7));
         for (int v : new int[] {LEAST, -1, 8, GREATEST}) {
             refusedArgument("deny " + v, host, () -> host.deny(0, 0, v));
             Check.badArgument("also behind RAM", () -> host.deny(0, 20, v));
         }
-        Check.due("no memory is touched", host.count(0, 5), 0);
+        Check.due("the last page", host.deny(0, 19, 7), 0);
     }
 
     private interface OfPage {
@@ -615,20 +660,46 @@ final class PromiseTest {
 
     private static void swapAnswers() {
         Check.sentence("A page that is HERE is SWAPPED: its SLOT;");
-        Rig rig = new Rig(20);
+        Rig rig = new Rig(128);
         NestedPager host = rig.host;
-        badPages("swap", host, 20, (g, page) -> host.swap(g, page));
-        refusedState("a FRESH one without a TABLE", host, () -> host.swap(0, 0));
         rig.write(0, 1);
-        rig.write(16, 2);
-        refusedState("a FRESH one", host, () -> host.swap(0, 2));
-        Check.due("SLOT 0", host.swap(0, 1), 0);
-        refusedState("a SWAPPED one", host, () -> host.swap(0, 1));
-        Hosts.give(rig, 3);
-        refusedState("a GIVEN one", host, () -> host.swap(0, 3));
-        Check.due("SLOT 1", host.swap(0, 0), 1);
-        Check.due("it is not RECLAIMED", host.count(0, 7), 0);
+        rig.write(127 * 16, 2);
+        Check.due("the last page", host.swap(0, 127), 0);
+        Check.due("the first page", host.swap(0, 0), 1);
+        Check.due("SWAPPED", host.entry(0, 127), 64 + 16);
+        Check.due("SWAPPED", host.entry(0, 0), 256 + 64 + 16);
+        rig.dueAccess("SLOT 0 comes free", Rig.READ, 127 * 16, 0, 2);
+        rig.write(16, 3);
+        Check.due("it is the least", host.swap(0, 1), 0);
+        Check.due("they are not RECLAIMED", host.count(0, 7), 0);
         Check.due("THE HAND stays", host.host(2), 0);
+    }
+
+    private static void swapRefused() {
+        Check.sentence("IllegalArgument, as with deny. IllegalState: also if it is not HERE.");
+        Rig rig = new Rig(20);
+        notHere("swap", rig, page -> rig.host.swap(0, page));
+        badPages("swap", rig.host, 20, (g, page) -> rig.host.swap(g, page));
+    }
+
+    private interface OfMemory {
+        void call(int page);
+    }
+
+    /** Pages of guest 0's memory that are not HERE, on a host where nothing has been done. */
+    private static void notHere(String name, Rig rig, OfMemory of) {
+        NestedPager host = rig.host;
+        refusedState(name + " of a FRESH page without a TABLE", host, () -> of.call(0));
+        rig.write(0, 1);
+        refusedState(name + " of a FRESH page", host, () -> of.call(1));
+        host.deny(0, 1, 7);
+        refusedState(name + " of a FRESH page that is DENIED", host, () -> of.call(1));
+        rig.write(2 * 16, 1);
+        host.swap(0, 2);
+        refusedState(name + " of a SWAPPED page", host, () -> of.call(2));
+        Hosts.give(rig, 3);
+        refusedState(name + " of a GIVEN page", host, () -> of.call(3));
+        of.call(0);
     }
 
     private static void swapWithoutRoom() {
@@ -645,24 +716,34 @@ final class PromiseTest {
 
     private static void moveAnswers() {
         Check.sentence("A page that is HERE moves into the least FREE frame: which;");
-        Rig rig = new Rig(20);
+        Rig rig = new Rig(128);
         NestedPager host = rig.host;
-        badPages("move", host, 20, (g, page) -> host.move(g, page));
-        refusedState("a FRESH one without a TABLE", host, () -> host.move(0, 0));
         Hosts.fillPage(host, 0, 0, 40);
         Hosts.fillPage(host, 0, 1, 60);
-        refusedState("a FRESH one", host, () -> host.move(0, 2));
+        host.deny(0, 1, 5);
         Check.due("behind all others", host.move(0, 0), 4);
         Check.due("the least", host.move(0, 1), 2);
         Hosts.duePage(host, 0, 0, 40);
         Hosts.duePage(host, 0, 1, 60);
+        Hosts.dueOwner(host, 4, 2, 0, 0);
+        Hosts.dueOwner(host, 2, 2, 0, 1);
         Hosts.dueFree(host, 3);
         Check.due("the ENTRY", host.entry(0, 0), 4 * 256 + 32 + 16);
-        host.swap(0, 0);
-        refusedState("a SWAPPED one", host, () -> host.move(0, 0));
-        rig.write(0, 1);
-        Hosts.give(rig, 3);
-        refusedState("a GIVEN one", host, () -> host.move(0, 3));
+        Check.due("DENIED stays", host.entry(0, 1), 2 * 256 + 32 + 16 + 5);
+        Hosts.fillPage(host, 0, 127, 80);
+        Hosts.dueOwner(host, 5, 2, 0, 127);
+        Check.due("the last page", host.move(0, 127), 6);
+        Hosts.duePage(host, 0, 127, 80);
+        Check.due("a moved page is SWAPPED", host.swap(0, 1), 0);
+        Check.due("its ENTRY", host.entry(0, 1), 64 + 16 + 5);
+        Check.due("the other's", host.entry(0, 0), 4 * 256 + 32 + 16);
+    }
+
+    private static void moveRefused() {
+        Check.sentence("IllegalArgument, as with deny. IllegalState: also if it is not HERE.");
+        Rig rig = new Rig(20);
+        notHere("move", rig, page -> rig.host.move(0, page));
+        badPages("move", rig.host, 20, (g, page) -> rig.host.move(g, page));
     }
 
     private static void moveWithoutRoom() {
@@ -801,6 +882,11 @@ final class PromiseTest {
             refusedArgument("poke at " + address, host, () -> host.poke(0, address, 0, 0, 0, 0));
             Check.badArgument("also of no guest", () -> host.poke(3, address, 0, 0, 0, 0));
         }
+    }
+
+    private static void pokeRefused() {
+        Check.sentence("IllegalArgument: also if one is no word. IllegalState.");
+        NestedPager host = new Rig(128).host;
         for (int bad : new int[] {LEAST, -1, 65536, GREATEST}) {
             refusedArgument("a", host, () -> host.poke(0, 0, bad, 0, 0, 0));
             refusedArgument("b", host, () -> host.poke(0, 0, 0, bad, 0, 0));

@@ -13,7 +13,6 @@ final class ReclaimTest {
         denyWithoutRoom();
         giveWithoutRoom();
         walkSurvivesReclaiming();
-        frameZeroIsReclaimed();
         Check.end();
     }
 
@@ -244,24 +243,5 @@ final class ReclaimTest {
         Check.due("the first entry", host.peek(0, 0), Rig.to(1, 7 | Rig.ACC));
         Check.due("the LEAF", host.peek(0, 16), Rig.to(50, 7 | Rig.ACC));
         Check.due("page 0 is HERE", host.entry(0, 0) & 127, 32 + 16 + 8);
-    }
-
-    private static void frameZeroIsReclaimed() {
-        NestedPager host = new NestedPager();
-        host.guest(1);
-        host.guest(128);
-        host.vcpu(1);
-        host.poke(1, 0, 50, 0, 0, 0);
-        host.destroy(0);
-        for (int page = 1; page < 119; page++) {
-            host.poke(1, page * 16, 50 + page, 0, 0, 0);
-        }
-        Check.due("FREE frames", host.host(0), 0);
-        Check.due("page 1 is in frame 0", host.entry(1, 1), 32 + 16);
-        Check.due("a new page", host.access(0, 1, 119 * 16, 3), 0);
-        Check.due("page 1 is SWAPPED", host.entry(1, 1), 64 + 16);
-        Check.due("page 119 is in frame 0", host.entry(1, 119), 32 + 16 + 8);
-        Check.due("THE HAND", host.host(2), 1);
-        Check.due("page 1 comes back", host.access(0, 0, 16, 0), 51);
     }
 }

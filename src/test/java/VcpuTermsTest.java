@@ -10,10 +10,12 @@ final class VcpuTermsTest {
     public static void main(String[] args) {
         vcpusAreEight();
         registersAtFirst();
+        registersAtFirstAgain();
         registersHaveLimits();
         addressesHaveLimits();
         withoutPaging();
         placeFitsItsPage();
+        placeOfPageZero();
         placeFitsByAsid();
         placeFitsIfLarge();
         leastPlaceCounts();
@@ -31,6 +33,7 @@ final class VcpuTermsTest {
         writeNeedsBoth();
         executeNeedsBoth();
         firstIsMarkedBeforeLeaf();
+        marksGoToTheirWords();
         marksThatLack();
         placesInTurn();
         placesAreNotToldInVain();
@@ -95,6 +98,56 @@ final class VcpuTermsTest {
         }
         Check.badArgument("place 8", () -> rig.host.aside(0, 8, 0));
         Check.badArgument("place -1", () -> rig.host.aside(0, -1, 0));
+    }
+
+    /** A VCPU that has a number again has nothing of the one that had it before. */
+    private static void registersAtFirstAgain() {
+        Check.sentence("all others at first 0, and 8 LOOK-ASIDE places, at first empty.");
+        Rig rig = paged(ALL, Rig.to(0, ALL), Rig.to(9, ALL));
+        rig.write(0, Rig.trap(5));
+        rig.set(Rig.HANDLER, 100);
+        rig.dueRun("a FAULT", 1, 1);
+        rig.dueRun("another", 1, 0);
+        rig.dueAccess("an EXIT in a WALK", Rig.FETCH, 0x300, 0, F);
+        rig.set(Rig.ROOT, 200);
+        rig.dueAccess("an EXIT in a WALK", Rig.FETCH, 0x305, 0, E);
+        rig.set(Rig.BITS, 0);
+        rig.dueAccess("an EVENT", Rig.WRITE, Rig.POST, 1, 0);
+        for (int what : new int[] {Rig.A, Rig.X, Rig.PC, Rig.MODE, Rig.BITS, Rig.ROOT, Rig.ASID, Rig.EPC, Rig.EMODE}) {
+            rig.set(what, 1);
+        }
+        for (int what = 0; what < 19; what++) {
+            Check.holds("get(" + what + ") is no longer what it was at first",
+                what == Rig.GUEST || rig.get(what) != (what == Rig.HANDLER ? -1 : 0));
+        }
+        rig.host.destroy(0);
+        Check.due("guest", rig.host.guest(64), 0);
+        Check.due("vcpu", rig.host.vcpu(0), 0);
+        for (int what = 0; what < 19; what++) {
+            rig.dueReg("at first again", what, what == Rig.HANDLER ? -1 : 0);
+        }
+        rig.dueExit("no EXIT", 0, 0, 0, 0, 0);
+        for (int i = 0; i < 8; i++) {
+            dueEmpty(rig, i);
+        }
+        rig.write(16, Rig.to(2, ALL));
+        rig.write(32, Rig.to(8, ALL));
+        rig.set(Rig.ROOT, 1);
+        rig.set(Rig.BITS, 1);
+        rig.dueAccess("a place", Rig.READ, 0, 0, 0);
+        Check.due("place 0 is the first", rig.host.aside(0, 0, 1), 8);
+    }
+
+    /** Page 0 is a page like any other, for a place and for a WALK. */
+    private static void placeOfPageZero() {
+        Check.sentence("it tells the guest's page;");
+        Rig rig = paged(ALL, Rig.to(0, ALL));
+        rig.write(0, 1000);
+        rig.dueAccess("a WALK", Rig.READ, 0, 0, 1000);
+        rig.write(32, Rig.to(9, ALL));
+        rig.dueAccess("the place", Rig.READ, 0, 0, 1000);
+        rig.duePlace("the place", 0, 0, 0, 3, 0);
+        dueEmpty(rig, 1);
     }
 
     private static void registersHaveLimits() {
@@ -366,6 +419,19 @@ final class VcpuTermsTest {
             Check.due("it is marked", rig.host.peek(0, 3 * 16),
                 Rig.to(page, ALL | Rig.LARGE | Rig.ACC | Rig.DTY));
         }
+        for (int word : new int[] {1, 7, 15}) {
+            for (int page : new int[] {0, 1, 15}) {
+                Rig rig = new Rig(128);
+                rig.write(3 * 16 + word / 4 * 4, fourWith(word % 4, Rig.to(64, ALL | Rig.LARGE)));
+                rig.set(Rig.ROOT, 3);
+                rig.set(Rig.BITS, 1);
+                rig.dueAccess("entry " + word + " page " + page, Rig.WRITE, word * 256 + page * 16, 9, 0);
+                Check.due("page % 16", rig.host.peek(0, (64 + page) * 16), 9);
+                rig.duePlace("page / 16", 0, word * 16, 64, 1 + 2 + 8 + 32, 0);
+                Check.due("it is marked", rig.host.peek(0, 3 * 16 + word),
+                    Rig.to(64, ALL | Rig.LARGE | Rig.ACC | Rig.DTY));
+            }
+        }
         Rig rig = new Rig(128);
         rig.write(3 * 16, Rig.to(128, ALL | Rig.LARGE));
         rig.set(Rig.ROOT, 3);
@@ -533,6 +599,28 @@ final class VcpuTermsTest {
             rig.dueAccess("both", kind, 1, 0, 0);
             Check.due("the first has no DIRTY", rig.host.peek(0, 16), Rig.to(2, ALL | Rig.ACC));
             Check.due("the LEAF", rig.host.peek(0, 32), Rig.to(8, ALL | marks));
+        }
+    }
+
+    /** Each mark goes to its own word, and no other word of the tables changes. */
+    private static void marksGoToTheirWords() {
+        Check.sentence("where one lacks these its page is REACHED for WRITE, and it is written.");
+        for (int word : new int[] {0, 1, 14, 15}) {
+            Rig rig = new Rig(64);
+            for (int i = 0; i < 16; i += 4) {
+                int to = Rig.to(2, ALL);
+                rig.write(16 + i, to, to, to, to);
+                to = Rig.to(8, ALL);
+                rig.write(32 + i, to, to, to, to);
+            }
+            rig.set(Rig.ROOT, 1);
+            rig.set(Rig.BITS, 1);
+            rig.dueAccess("entries " + word, Rig.WRITE, word * 256 + (15 - word) * 16, 1, 0);
+            for (int i = 0; i < 16; i++) {
+                Check.due("first entry " + i, rig.host.peek(0, 16 + i), Rig.to(2, ALL | (i == word ? Rig.ACC : 0)));
+                Check.due("LEAF " + i, rig.host.peek(0, 32 + i),
+                    Rig.to(8, ALL | (i == 15 - word ? Rig.ACC | Rig.DTY : 0)));
+            }
         }
     }
 
